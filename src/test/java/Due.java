@@ -2,7 +2,7 @@ import java.util.Arrays;
 
 /** Compares answers with the ones that are due, and ends the test with exit code 1 if one differs. */
 final class Due {
-    static final int NO_THROW = 0, ILLEGAL_STATE = 1, NO_SUCH_INDEX = 2;
+    static final int ILLEGAL_STATE = -1001, NO_SUCH_INDEX = -1002, OTHER_EXCEPTION = -1003;
 
     private final String name;
     private int compared;
@@ -30,19 +30,18 @@ final class Due {
     }
 
     void thrown(String what, SizeForms forms, int i, int want) {
-        same(what + ": out(" + i + ") throws", whatOutThrows(forms, i), want);
+        same(what + ": out(" + i + ")", outcome(forms, i), want);
     }
 
-    /** By the exact class: one above or below it is not the one that the document names. */
-    static int whatOutThrows(SizeForms forms, int i) {
+    /** What out answers, or which exception it throws: by the exact class, none above or below it. */
+    static int outcome(SizeForms forms, int i) {
         try {
-            forms.out(i);
-            return NO_THROW;
+            return forms.out(i);
         } catch (RuntimeException e) {
             if (e.getClass() == IllegalStateException.class) {
                 return ILLEGAL_STATE;
             }
-            return e.getClass() == ArrayIndexOutOfBoundsException.class ? NO_SUCH_INDEX : -1;
+            return e.getClass() == ArrayIndexOutOfBoundsException.class ? NO_SUCH_INDEX : OTHER_EXCEPTION;
         }
     }
 

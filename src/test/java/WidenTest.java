@@ -250,8 +250,8 @@ public final class WidenTest {
         for (int what : new int[] {-1, 4, Integer.MIN_VALUE, Integer.MAX_VALUE}) {
             due.same("of(0, " + what + ")", forms.of(0, what), SizeForms.BAD);
         }
-        due.thrown("first", forms, 0, Due.NO_THROW);
-        due.thrown("last", forms, 4, Due.NO_THROW);
+        due.same("first", forms.out(0), 9);
+        due.same("last", forms.out(4), 9);
         for (int i : new int[] {-1, 5, Integer.MIN_VALUE, Integer.MAX_VALUE}) {
             due.thrown("none such", forms, i, Due.NO_SUCH_INDEX);
         }
