@@ -734,9 +734,12 @@ public final class SizeForms {
         }
 
         private int listWord(int index, int address, Code code) {
-            int entry = (index - 2) / 2;
-            if (index == 1 || entry >= keys.length || entry >= labels.length) {
+            if (index == 1) {
                 return keys.length;
+            }
+            int entry = (index - 2) / 2;
+            if (entry < 0 || entry >= keys.length || entry >= labels.length) {
+                return 0;
             }
             return index % 2 == 0 ? keys[entry] : code.distance(labels[entry], address);
         }
@@ -924,8 +927,10 @@ public final class SizeForms {
         }
 
         int distance(int label, int from) {
-            int ahead = hasLabel(label) ? putAhead[label] : 0;
-            return ahead == 0 ? 0 : addresses[ahead - 1] - from;
+            if (label < 0 || label >= labelCount || putAhead[label] == 0) {
+                return 0;
+            }
+            return addresses[putAhead[label] - 1] - from;
         }
 
         int byteAt(int index) {

@@ -97,6 +97,11 @@ public final class CheckTest {
         bound(due, forms, 2, 6);
         forms.limit(1, 180);
         bound(due, forms, 0, 0);
+
+        SizeForms first = new SizeForms();
+        Due.text(first, 97, 98);
+        first.limit(1, 1);
+        bound(due, first, 2, 1);
     }
 
     private static void leastLooseLabel(Due due) {

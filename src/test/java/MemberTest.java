@@ -33,6 +33,8 @@ public final class MemberTest {
         due.same("one more", forms.member(true, 1, 1), SizeForms.FULL);
         due.same("a bad one", forms.member(true, -1, 1), SizeForms.BAD);
         due.same("how many", forms.count(5), 20);
+        forms.unit(0, 1, 0);
+        due.same("none has too many places", forms.check(0), 0);
     }
 
     private static void places(Due due, boolean alone, int single, int twice, int places) {
