@@ -47,13 +47,31 @@ public final class ModelTest {
         int reach = random.nextInt(3) == 0 ? 32767 : 5 + random.nextInt(300);
         forms.limit(3, reach);
         model.limit(3, reach);
-        int drawn = random.nextBoolean() ? CALLS : 150 + random.nextInt(150);
-        for (int call = 1; call < drawn; call++) {
+        int first = 1;
+        if (random.nextInt(8) == 0) {
+            first += 380 + random.nextInt(25);
+            if (!fillsPool(first - 1)) {
+                return "the last call that fills the pool is wrong: " + lastCalls;
+            }
+        }
+        int drawn = first > 1 || random.nextBoolean() ? CALLS : 150 + random.nextInt(150);
+        for (int call = first; call < drawn; call++) {
             if (!isSame(draw(weights))) {
                 return "the last call is wrong: " + lastCalls;
             }
         }
         return drawn == CALLS || isSameAtEnd(CALLS - drawn) ? null : "the last call at the end is wrong: " + lastCalls;
+    }
+
+    /** Drawn calls alone hardly ever come to the 400th constant; some texts are there, so that links can be drawn. */
+    private boolean fillsPool(int calls) {
+        for (int call = 0; call < calls; call++) {
+            boolean isText = call % 40 == 39;
+            if (!(isText ? same("text()", forms.text(), model.text()) : number(random.nextInt(3), call))) {
+                return false;
+            }
+        }
+        return true;
     }
 
     /** All labels are put, so that the code can be widened; the calls that are left look at its units and bytes. */
@@ -109,6 +127,15 @@ public final class ModelTest {
         return some(Math.max(1, model.count(1)) + 1);
     }
 
+    /** A place of a constant of that sort, if there is one: not always, so that links are refused, too. */
+    private int placeOf(int sort) {
+        int place = place();
+        for (int tries = random.nextInt(100); tries > 10 && model.told(place, 0) != sort; tries--) {
+            place = place();
+        }
+        return place;
+    }
+
     private int aLabel() {
         return random.nextInt(40) == 0 ? edge() : random.nextInt(Math.max(1, model.count(4)));
     }
@@ -123,7 +150,7 @@ public final class ModelTest {
             case 2: return same("wipe()", forms.wipe(), model.wipe());
             case 3: return number(some(3), someBits());
             case 4: return same("text()", forms.text(), model.text());
-            case 5: return link(4 + some(3), place(), place());
+            case 5: return link(4 + some(3));
             case 6: return told(place(), some(4));
             case 7: return same("label()", forms.label(), model.label());
             case 8: {
@@ -175,7 +202,8 @@ public final class ModelTest {
         return same("number(" + sort + ", " + bits + ")", forms.number(sort, bits), model.number(sort, bits));
     }
 
-    private boolean link(int sort, int a, int b) {
+    private boolean link(int sort) {
+        int a = placeOf(sort == 6 ? 4 : 3), b = placeOf(sort == 6 ? 5 : 3);
         return same("link(" + sort + ", " + a + ", " + b + ")", forms.link(sort, a, b), model.link(sort, a, b));
     }
 
